@@ -955,62 +955,83 @@ public final class ClayAccounts {
         }
     }
 
-    /** Finds the READINGS of a TABLET, ? by ?. */
+    /** Finds the READINGS of a TABLET, ? by ?. A SUM here is a LINE that has to COME OUT. */
     private static final class Solver {
-        // How far a TOTAL or GRAND is off, with the first q ? filled and the others 0.
+        private int sumCount;
+        // How far each SUM is off, with the first q ? filled and the others 0.
         private final long[][] off = new long[MOST_HOLES + 1][MOST_LINES];
         // How much further off it is with each one of the digit of ? q.
         private final long[][] slopes = new long[MOST_HOLES][MOST_LINES];
-        // The last ? that matters to it; NONE also for an ENTRY.
-        private final int[] lastHoles = new int[MOST_LINES];
+        // How much the ? from q on can change that, down and up.
+        private final long[][] downs = new long[MOST_HOLES + 1][MOST_LINES];
+        private final long[][] ups = new long[MOST_HOLES + 1][MOST_LINES];
         private final int[] digits = new int[MOST_HOLES];
         private boolean oneIsEnough;
 
         /** All READINGS, or one if that is enough, and the fewest LINES that do not COME OUT. */
         void solve(Tablet tablet, boolean stopAtFirst) {
             oneIsEnough = stopAtFirst;
-            int missed = 0;
+            sumCount = 0;
             for (int k = 0; k < tablet.lineCount; k++) {
-                lastHoles[k] = NONE;
                 if (tablet.lines[k].kind != ENTRY) {
-                    weigh(tablet, k);
-                    missed += lastHoles[k] == NONE && off[0][k] != 0 ? 1 : 0;
+                    weigh(tablet, k, sumCount);
+                    measure(sumCount);
+                    sumCount++;
                 }
             }
+            int missed = missedWith(0);
             if (isWorthwhile(tablet, missed)) {
                 fill(tablet, 0, missed);
             }
         }
 
-        private void weigh(Tablet tablet, int k) {
-            off[0][k] = 0;
+        private void weigh(Tablet tablet, int k, int sum) {
+            off[0][sum] = 0;
             for (int q = 0; q < MOST_HOLES; q++) {
-                slopes[q][k] = 0;
+                slopes[q][sum] = 0;
             }
-            weighLine(tablet, k, k, 1);
-            Line sum = tablet.lines[k];
+            Line whole = tablet.lines[k];
+            addPart(tablet, k, sum, 1);
             for (int j = k - 1; j >= 0; j--) {
                 Line part = tablet.lines[j];
-                if (part.system != sum.system) {
-                    continue;
+                if (part.system == whole.system && part.kind == whole.kind - 1) {
+                    addPart(tablet, j, sum, -1);
                 }
-                if (sum.kind == TOTAL && part.kind == TOTAL) {
+                if (part.system == whole.system && part.kind == TOTAL && whole.kind == TOTAL) {
                     break;
-                }
-                if (part.kind == sum.kind - 1) {
-                    weighLine(tablet, k, j, -1);
                 }
             }
         }
 
-        private void weighLine(Tablet tablet, int k, int part, int sign) {
-            off[0][k] += (long) sign * tablet.lines[part].value;
+        private void addPart(Tablet tablet, int k, int sum, int sign) {
+            off[0][sum] += (long) sign * tablet.lines[k].value;
             for (int q = 0; q < tablet.holeCount; q++) {
-                if (tablet.holes[q].line == part) {
-                    slopes[q][k] = (long) sign * tablet.holes[q].weight;
-                    lastHoles[k] = Math.max(lastHoles[k], q);
+                if (tablet.holes[q].line == k) {
+                    slopes[q][sum] = (long) sign * tablet.holes[q].weight;
                 }
             }
+        }
+
+        private void measure(int sum) {
+            downs[MOST_HOLES][sum] = 0;
+            ups[MOST_HOLES][sum] = 0;
+            for (int q = MOST_HOLES - 1; q >= 0; q--) {
+                long most = 9 * slopes[q][sum];
+                downs[q][sum] = downs[q + 1][sum] + Math.min(0, most);
+                ups[q][sum] = ups[q + 1][sum] + Math.max(0, most);
+            }
+        }
+
+        /** How many LINES can't COME OUT any more, with the first q ? filled. */
+        private int missedWith(int q) {
+            int missed = 0;
+            for (int sum = 0; sum < sumCount; sum++) {
+                long now = off[q][sum];
+                if (now + downs[q][sum] > 0 || now + ups[q][sum] < 0) {
+                    missed++;
+                }
+            }
+            return missed;
         }
 
         private boolean isWorthwhile(Tablet tablet, int missed) {
@@ -1032,22 +1053,14 @@ public final class ClayAccounts {
             int room = hole.isBehindHole && q > 0 ? hole.room - 10 * digits[q - 1] : hole.room;
             for (int d = hole.leastDigit; d <= 9 && d * hole.scale <= room; d++) {
                 digits[q] = d;
-                int missedNow = missed + missedWith(tablet, q, d);
+                for (int sum = 0; sum < sumCount; sum++) {
+                    off[q + 1][sum] = off[q][sum] + d * slopes[q][sum];
+                }
+                int missedNow = missedWith(q + 1);
                 if (isWorthwhile(tablet, missedNow)) {
                     fill(tablet, q + 1, missedNow);
                 }
             }
-        }
-
-        private int missedWith(Tablet tablet, int q, int d) {
-            int missed = 0;
-            for (int k = 0; k < tablet.lineCount; k++) {
-                if (lastHoles[k] >= q) {
-                    off[q + 1][k] = off[q][k] + d * slopes[q][k];
-                    missed += lastHoles[k] == q && off[q + 1][k] != 0 ? 1 : 0;
-                }
-            }
-            return missed;
         }
 
         // The ? of a LINE stand side by side, so its VALUE is whole at the last one of them.
