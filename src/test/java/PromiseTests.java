@@ -1,17 +1,5 @@
-import java.nio.charset.StandardCharsets;
-import java.util.NoSuchElementException;
-
 /** The promises one by one: ordinary inputs, the edges that the document names, wrong inputs. */
-public final class PromiseTests {
-    private static final String UNITS = "system barley: sila 10 ban 6 bariga 5 gur;system silver: grain 60 shekel 60 mina;";
-    private static final int THROWS = Integer.MIN_VALUE;
-    private static int calls = 0;
-    private static int wrong = 0;
-
-    private interface Call {
-        int answer();
-    }
-
+public final class PromiseTests extends Check {
     public static void main(String[] args) {
         promise1();
         promise2and3();
@@ -35,92 +23,7 @@ public final class PromiseTests {
         promise19and20();
         matchTakesTheFirst();
         promise21();
-        System.out.println("PromiseTests: " + calls + " answers, " + wrong + " wrong");
-        System.exit(wrong == 0 ? 0 : 1);
-    }
-
-    private static void due(String what, int got, int want) {
-        calls++;
-        if (got != want) {
-            wrong++;
-            System.out.println(what + " answered " + got + ", due is " + want);
-        }
-    }
-
-    private static void due(String what, boolean got, boolean want) {
-        due(what, got ? 1 : 0, want ? 1 : 0);
-    }
-
-    private static int orThrows(Call call) {
-        try {
-            return call.answer();
-        } catch (NoSuchElementException e) {
-            return THROWS;
-        }
-    }
-
-    private static void put(ClayAccounts x, byte[] text) {
-        int before = x.count(4);
-        for (int i = 0; i < text.length; i += 20) {
-            int[] n = new int[5];
-            for (int j = 0; j < 20; j++) {
-                int octet = i + j < text.length ? text[i + j] & 255 : 0;
-                n[j / 4] = n[j / 4] << 8 | octet;
-            }
-            x.feed(n[0], n[1], n[2], n[3], n[4]);
-        }
-        x.end(before + text.length);
-    }
-
-    private static void put(ClayAccounts x, String text) {
-        put(x, text.getBytes(StandardCharsets.ISO_8859_1));
-    }
-
-    private static int systems(ClayAccounts x, String text) {
-        put(x, text);
-        return x.systems();
-    }
-
-    private static int tablet(ClayAccounts x, String text) {
-        put(x, text);
-        return x.tablet();
-    }
-
-    private static int fragment(ClayAccounts x, String text, int left, int right) {
-        put(x, text);
-        return x.fragment(left, right);
-    }
-
-    private static ClayAccounts withUnits(String text) {
-        ClayAccounts x = new ClayAccounts();
-        systems(x, text);
-        return x;
-    }
-
-    private static void dueSystems(String text, int want, int fault) {
-        ClayAccounts x = new ClayAccounts();
-        due("systems of \"" + text + "\"", systems(x, text), want);
-        due("fault of \"" + text + "\"", x.fault(), fault);
-    }
-
-    private static void dueTablet(String text, int want, int fault) {
-        ClayAccounts x = withUnits(UNITS);
-        due("tablet of \"" + text + "\"", tablet(x, text), want);
-        due("fault of \"" + text + "\"", x.fault(), fault);
-        due("count of tablets behind \"" + text + "\"", x.count(1), want >= 0 ? 1 : 0);
-    }
-
-    private static void dueOut(ClayAccounts x, String text) {
-        due("bytes of OUT for " + text, x.count(5), text.length());
-        for (int k = 0; k < text.length(); k++) {
-            int place = k;
-            due("octet " + k + " of " + text, orThrows(() -> x.octet(place)), text.charAt(k));
-        }
-        due("octet behind " + text, orThrows(() -> x.octet(text.length())), THROWS);
-    }
-
-    private static String blanks(int n) {
-        return " ".repeat(n);
+        finish("PromiseTests");
     }
 
     private static void promise1() {
