@@ -425,6 +425,13 @@ public final class FragmentBoundaryTests extends Check {
 
     private static void latestMatch() {
         sentence("With which FRAGMENT f is in the latest MATCH; NONE: with none, or ahead of any (also behind systems() that told how many).");
+        ClayAccounts fresh = new ClayAccounts();
+        for (int f = 0; f < 12; f++) {
+            fragment(fresh, "", 5, 99999994);
+            due("ahead of any, without SYSTEMS", fresh.matched(f), -1);
+        }
+        due("match", fresh.match(), 6);
+        due("behind it", fresh.matched(11), 10);
         ClayAccounts x = with("1", 0, 4, "x", 99999995, 0);
         due("ahead of any", x.matched(0), -1);
         due("match", x.match(), 1);
